@@ -921,7 +921,6 @@ public final class ProcessMill {
         }
     }
 
-    /** A process. */
     private static final class Proc {
         private final int pid;
         private final int priority;
