@@ -16,6 +16,16 @@ final class BondWordsTest {
         trapping();
         names();
         whatIsNoPidIsBad();
+        theTwoHundredAndFirstIsCaught();
+        twoHundredAndTheDead();
+        watchesOfTheDeadDoNotGoOn();
+        watchingTheDeadWithoutRoom();
+        onlyTheAtomKillKills();
+        onlyTheAtomNormalIsNothing();
+        bondsWithItself();
+        bondsWithTheDead();
+        namesAtTheEdges();
+        watchesOfManyByMany();
         check.end();
     }
 
@@ -224,5 +234,186 @@ final class BondWordsTest {
             }
         }
         check.same("no watch is made", pair(others[0], Mills.w(31, 2, 1)).total(7), 0);
+    }
+
+    /** A mill in which pid 1 (name 8) waits and pid 2 watches it so many times, then does the words. */
+    private static ProcessMill watchedTimes(int times, int[]... words) {
+        ProcessMill mill = Mills.loaded(Mills.w(34, 8), Mills.w(27, 2));
+        Mills.load(mill, 50, Mills.w(35, 1, 8), Mills.w(1, 2, times), Mills.w(31, 3, 1), Mills.w(12, 55, 3, 2),
+                Mills.w(11, 52));
+        Mills.load(mill, 55, words);
+        mill.word(55 + words.length, 11, 55 + words.length, 0, 0);
+        mill.word(100, 11, 100, 0, 0);
+        mill.start(0, 1);
+        mill.run(1);
+        mill.start(50, 1);
+        mill.run(60);
+        mill.run(10);
+        return mill;
+    }
+
+    private static void theTwoHundredAndFirstIsCaught() {
+        ProcessMill fits = watchedTimes(199, Mills.w(17, 100), Mills.w(31, 4, 1));
+        check.same("the 200th", Mills.register(fits, 2, 4), "200");
+        check.same("it goes on", fits.process(2, 1), 57);
+        ProcessMill fails = watchedTimes(200, Mills.w(17, 100), Mills.w(31, 4, 1));
+        check.same("Xa of the 201st stays", Mills.register(fails, 2, 4), "0");
+        check.same("X0 is limit", Mills.register(fails, 2, 0), "a5");
+        check.same("on to the catch", fails.process(2, 1), 100);
+        check.same("watches made", fails.total(7), 200);
+        fails.send(1, 1);
+        fails.run(2);
+        check.same("what comes of the 200", fails.process(2, 5), 40);
+        check.same("the first", Mills.message(fails, 2, 0), "(a7 (1 (p1 a0)))");
+        check.same("the 40th", Mills.message(fails, 2, 39), "(a7 (40 (p1 a0)))");
+    }
+
+    /** Pid 3 is dead when it is watched: with 200 that go on that fails, too. */
+    private static void twoHundredAndTheDead() {
+        int[][] words = {Mills.w(21, 4, 200), Mills.w(2, 5, 1), Mills.w(32, 4, 5), Mills.w(17, 100),
+            Mills.w(31, 6, 4)};
+        ProcessMill fits = watchedTimes(199, words);
+        check.same("its number", Mills.register(fits, 2, 6), "200");
+        check.same("its message", Mills.messages(fits, 2), "(a7 (200 (p3 a3)))");
+        ProcessMill fails = watchedTimes(200, words);
+        check.same("no number", Mills.register(fails, 2, 6), "0");
+        check.same("X0 is limit", Mills.register(fails, 2, 0), "a5");
+        check.same("no message", fails.process(2, 5), 0);
+        check.same("watches made", fails.total(7), 200);
+    }
+
+    private static void watchesOfTheDeadDoNotGoOn() {
+        ProcessMill mill = watchedTimes(199, Mills.w(21, 4, 200), Mills.w(2, 5, 1), Mills.w(32, 4, 5),
+                Mills.w(31, 6, 4), Mills.w(31, 6, 4), Mills.w(31, 7, 1), Mills.w(17, 100), Mills.w(31, 7, 1));
+        check.same("two of a dead one", mill.process(2, 5), 2);
+        check.same("the 200th that goes on", Mills.register(mill, 2, 7), "202");
+        check.same("then it fails", Mills.register(mill, 2, 0), "a5");
+        check.same("watches made", mill.total(7), 202);
+    }
+
+    private static void watchingTheDeadWithoutRoom() {
+        ProcessMill mill = Mills.loaded(Mills.w(27, 1), Mills.w(21, 1, 200), Mills.w(2, 2, 1), Mills.w(32, 1, 2),
+                Mills.w(31, 3, 1), Mills.w(31, 3, 1), Mills.w(33, 1), Mills.w(29, 1), Mills.w(11, 8));
+        mill.start(0, 1);
+        for (int k = 0; k < 39; k++) {
+            mill.send(1, k);
+        }
+        mill.run(1);
+        check.same("the number of the second", Mills.register(mill, 1, 3), "2");
+        check.same("messages", mill.process(1, 5), 40);
+        check.same("the 40th", Mills.message(mill, 1, 39), "(a7 (1 (p2 a3)))");
+        check.same("messages that came", mill.total(8), 40);
+        check.same("it goes on", mill.process(1, 1), 8);
+    }
+
+    /** What becomes of pid 2, which traps or not, by an exit of X2 from pid 1. */
+    private static String exitOf(boolean traps, int[]... words) {
+        ProcessMill mill = Mills.loaded(Mills.w(33, traps ? 1 : 0), Mills.w(34, 8), Mills.w(27, 20));
+        mill.word(20, 11, 20, 0, 0);
+        Mills.load(mill, 50, Mills.w(35, 1, 8));
+        Mills.load(mill, 51, words);
+        Mills.load(mill, 51 + words.length, Mills.w(32, 1, 2), Mills.w(27));
+        mill.start(0, 1);
+        mill.run(1);
+        mill.start(50, 1);
+        mill.run(1);
+        return mill.process(1, 0) == Mills.DEAD ? Mills.reason(mill, 1) : Mills.messages(mill, 1);
+    }
+
+    private static void onlyTheAtomKillKills() {
+        int[] killPair = Mills.w(7, 2, 2, 2);
+        check.same("kill, trapped", exitOf(true, Mills.w(2, 2, 1)), "a2");
+        check.same("kill", exitOf(false, Mills.w(2, 2, 1)), "a2");
+        check.same("killed, trapped", exitOf(true, Mills.w(2, 2, 2)), "(a6 (p2 a2))");
+        check.same("killed", exitOf(false, Mills.w(2, 2, 2)), "a2");
+        check.same("atom 101 is kill", exitOf(true, Mills.w(2, 2, 101)), "a2");
+        check.same("the number 1, trapped", exitOf(true, Mills.w(1, 2, 1)), "(a6 (p2 1))");
+        check.same("the number 1", exitOf(false, Mills.w(1, 2, 1)), "1");
+        check.same("the pid 1, trapped", exitOf(true, Mills.w(3, 2, 1)), "(a6 (p2 p1))");
+        check.same("a pair of kill, trapped", exitOf(true, Mills.w(2, 2, 1), killPair), "(a6 (p2 (a1 a1)))");
+        check.same("a pair of kill", exitOf(false, Mills.w(2, 2, 1), killPair), "(a1 a1)");
+    }
+
+    private static void onlyTheAtomNormalIsNothing() {
+        check.same("normal", exitOf(false, Mills.w(2, 2, 0)), "");
+        check.same("normal, trapped", exitOf(true, Mills.w(2, 2, 0)), "(a6 (p2 a0))");
+        check.same("atom 100 is normal", exitOf(false, Mills.w(2, 2, 100)), "");
+        check.same("atom 99", exitOf(false, Mills.w(2, 2, 99)), "a99");
+        check.same("the number 0", exitOf(false, Mills.w(1, 2, 0)), "0");
+        check.same("a pair of normal", exitOf(false, Mills.w(2, 2, 0), Mills.w(7, 2, 2, 2)), "(a0 a0)");
+    }
+
+    private static void bondsWithItself() {
+        ProcessMill link = pair(Mills.w(20, 2), Mills.w(29, 2), Mills.w(30, 2));
+        check.same("links", link.process(1, 7), 0);
+        check.same("it goes on", link.process(1, 0), Mills.WAITS);
+        ProcessMill traps = pair(Mills.w(33, 1), Mills.w(20, 2), Mills.w(29, 2));
+        check.same("no message", traps.process(1, 5), 0);
+        ProcessMill exit = pair(Mills.w(20, 2), Mills.w(2, 3, 9), Mills.w(17, 50), Mills.w(32, 2, 3));
+        check.same("an exit from itself is not caught", Mills.reason(exit, 1), "a9");
+    }
+
+    private static void bondsWithTheDead() {
+        ProcessMill off = pair(KILL_X2, Mills.w(32, 1, 2), Mills.w(30, 1), Mills.w(30, 1));
+        check.same("a link with a dead one is off", off.process(1, 0), Mills.WAITS);
+        ProcessMill exits = pair(Mills.w(33, 1), KILL_X2, Mills.w(32, 1, 2), Mills.w(32, 1, 2), Mills.w(32, 1, 1));
+        check.same("exits for a dead one", exits.process(1, 5), 0);
+        check.same("its reason stays", Mills.reason(exits, 2), "a2");
+        ProcessMill itself = pair(KILL_X2, Mills.w(32, 1, 2), Mills.w(33, 1), Mills.w(29, 1), Mills.w(29, 1));
+        check.same("each time an exit nobody", Mills.messages(itself, 1), "(a6 (p2 a3)) (a6 (p2 a3))");
+    }
+
+    /** Pid 1 has the name a, pid 2 wants the name b: bad if they are the same modulo 100. */
+    private static void namesAtTheEdges() {
+        int[][] names = {{0, 100}, {99, -1}, {0, -100}, {99, 199}, {0, 99}, {99, 100}, {0, 1}};
+        for (int[] row : names) {
+            ProcessMill mill = Mills.loaded(Mills.w(34, row[0]), Mills.w(27));
+            Mills.load(mill, 20, Mills.w(34, row[1]), Mills.w(27));
+            mill.start(0, 1);
+            mill.start(20, 1);
+            mill.run(2);
+            boolean same = (row[1] + 1000) % 100 == row[0];
+            check.same("names " + row[0] + " and " + row[1], Mills.reason(mill, 2), same ? "a4" : "none");
+            check.same("the first keeps its name", mill.process(1, 3), row[0]);
+        }
+        ProcessMill both = Mills.loaded(Mills.w(34, 5), Mills.w(17, 9), Mills.w(34, 6));
+        both.word(9, 11, 9, 0, 0);
+        both.start(0, 1);
+        both.run(1);
+        check.same("the second name is bad", Mills.register(both, 1, 0), "a4");
+        check.same("it keeps its first name", both.process(1, 3), 5);
+        both.word(20, 34, 6, 0, 0);
+        both.word(21, 27, 0, 0, 0);
+        both.start(20, 0);
+        both.run(1);
+        check.same("the second name is nobody's", both.process(2, 3), 6);
+    }
+
+    /** Pids 1 to 3 (names 1 to 3) wait; pids 4 to 6 each watch them, in unlike orders; then pids 2, 1, 3 end. */
+    private static void watchesOfManyByMany() {
+        ProcessMill mill = new ProcessMill();
+        for (int k = 1; k <= 3; k++) {
+            Mills.load(mill, 10 * k, Mills.w(34, k), Mills.w(27, 10 * k + 2));
+            mill.start(10 * k, 0);
+        }
+        int[][] orders = {{1, 2, 3}, {3, 1, 2}, {2, 2, 3}};
+        for (int[] order : orders) {
+            int at = 100 + 20 * mill.total(0);
+            for (int k = 0; k < 3; k++) {
+                Mills.load(mill, at + 2 * k, Mills.w(35, 1, order[k]), Mills.w(31, 2, 1));
+            }
+            mill.word(at + 6, 11, at + 6, 0, 0);
+            mill.start(at, 1);
+        }
+        mill.run(6);
+        int[] deaths = {2, 1, 3};
+        for (int pid : deaths) {
+            mill.send(pid, 0);
+            mill.run(2);
+        }
+        check.same("not dead", mill.total(1), 3);
+        check.same("of pid 4", Mills.messages(mill, 4), "(a7 (2 (p2 a0))) (a7 (1 (p1 a0))) (a7 (3 (p3 a0)))");
+        check.same("of pid 5", Mills.messages(mill, 5), "(a7 (6 (p2 a0))) (a7 (5 (p1 a0))) (a7 (4 (p3 a0)))");
+        check.same("of pid 6", Mills.messages(mill, 6), "(a7 (7 (p2 a0))) (a7 (8 (p2 a0))) (a7 (9 (p3 a0)))");
     }
 }

@@ -12,6 +12,9 @@ final class DyingTest {
         aFullMailboxGetsNothing();
         theOneAtWorkDiesByItsOwnWord();
         theSliceOfTheDeadIsLost();
+        exitsByWordAreLimited();
+        theLastPlaceInAMailbox();
+        nothingIsLeftOfTheDead();
         check.end();
     }
 
@@ -172,5 +175,71 @@ final class DyingTest {
         check.same("slices", mill.run(3), 3);
         check.same("only pid 2 is left", mill.total(1) * 10 + mill.total(2), 11);
         check.same("and had two slices", mill.process(2, 10), 24);
+    }
+
+    /** Pid 2 sends pid 1, which traps, an exit of so many ends. */
+    private static String exitByWord(int ends) {
+        ProcessMill mill = Mills.loaded(Mills.w(33, 1), Mills.w(34, 8), Mills.w(27, 20));
+        mill.word(20, 11, 20, 0, 0);
+        mill.word(50, 35, 1, 8, 0);
+        for (int k = 1; k < ends; k++) {
+            mill.word(50 + k, 7, 3, 3, 4);
+        }
+        Mills.load(mill, 50 + ends, Mills.w(32, 1, 3), Mills.w(27));
+        mill.start(0, 2);
+        mill.run(1);
+        mill.start(50, 1);
+        mill.run(4);
+        check.same("pid 2 waits", mill.process(2, 0), Mills.WAITS);
+        String due = "(a6 (p2 " + Mills.register(mill, 2, 3) + "))";
+        return Mills.messages(mill, 1).equals(due) ? "whole" : Mills.messages(mill, 1);
+    }
+
+    private static void exitsByWordAreLimited() {
+        check.same("an exit of 1 end", exitByWord(1), "whole");
+        check.same("an exit of 29 ends", exitByWord(29), "whole");
+        check.same("an exit of 30 ends", exitByWord(30), "whole");
+        check.same("an exit of 31 ends", exitByWord(31), "(a6 (p2 a5))");
+        check.same("an exit of 32 ends", exitByWord(32), "(a6 (p2 a5))");
+        ProcessMill mill = diesOf(32);
+        check.same("a death of 32 ends", Mills.messages(mill, 1), "(a6 (p2 a5)) (a7 (1 (p2 a5)))");
+        check.same("the reason is whole", mill.register(2, 8, 94), 0);
+    }
+
+    /** With 38, 39 and 40 messages: an exit and a down find two, one and no places. */
+    private static void theLastPlaceInAMailbox() {
+        String[] due = {"37 (a6 (p2 a0)) (a7 (1 (p2 a0)))", "38 (a6 (p2 a0))", "39"};
+        for (int k = 0; k < 3; k++) {
+            ProcessMill mill = Mills.loaded(Mills.w(33, 1), Mills.w(22, 1, 50), Mills.w(31, 2, 1), Mills.w(11, 3));
+            mill.start(0, 1);
+            for (int n = 0; n < 38 + k; n++) {
+                mill.send(1, n);
+            }
+            mill.run(2);
+            check.same("pid 2 is dead", mill.process(2, 0), Mills.DEAD);
+            check.same("messages", mill.process(1, 5), 40);
+            check.same("messages that came", mill.total(8), 40);
+            check.same("the last ones", Mills.messages(mill, 1).endsWith(" " + due[k]), true);
+            check.same("links", mill.process(1, 7), 0);
+        }
+    }
+
+    private static void nothingIsLeftOfTheDead() {
+        ProcessMill mill = Mills.loaded(Mills.w(33, 1), Mills.w(34, 8), Mills.w(22, 1, 50), Mills.w(31, 2, 1),
+                Mills.w(17, 90), Mills.w(15, 6), Mills.w(26), Mills.w(26), Mills.w(2, 3, 9), Mills.w(20, 4),
+                Mills.w(33, 0), Mills.w(32, 4, 3));
+        mill.word(50, 27, 0, 0, 0);
+        mill.start(0, 1);
+        mill.send(1, 1);
+        mill.send(1, 2);
+        mill.run(1);
+        int[] due = {Mills.DEAD, 12, 1, ProcessMill.NONE, 0, 0, 0, 0, 0, 0, 12};
+        for (int what = 0; what < due.length; what++) {
+            check.same("fact " + what + " of the dead", mill.process(1, what), due[what]);
+        }
+        check.same("its messages", Mills.message(mill, 1, 0), "none");
+        check.same("its registers stay", Mills.register(mill, 1, 1), "p2");
+        check.same("the linked one died of it", Mills.reason(mill, 2), "a9");
+        check.same("messages that came", mill.total(8), 2);
     }
 }

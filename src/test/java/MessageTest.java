@@ -6,6 +6,9 @@ final class MessageTest {
         wrongAsksAreRefused();
         rowsOfMessages();
         whereThereIsNone();
+        everyPid();
+        theLastMessage();
+        theLongestMessage();
         check.end();
     }
 
@@ -50,5 +53,45 @@ final class MessageTest {
         }
         mill.run(1);
         check.same("a message of a dead one", mill.message(1, 0, 0), ProcessMill.NONE);
+    }
+
+    private static void everyPid() {
+        ProcessMill mill = new ProcessMill();
+        for (int pid = 1; pid <= 60; pid++) {
+            mill.start(0, 1);
+            mill.send(pid, -pid);
+        }
+        for (int pid = 1; pid <= 60; pid++) {
+            check.same("the message of pid " + pid, mill.message(pid, 0, 1), -pid);
+        }
+        check.illegalArgument("message(61, 0, 0)", () -> mill.message(61, 0, 0));
+        check.illegalArgument("message(0, 0, 0)", () -> mill.message(0, 0, 0));
+    }
+
+    private static void theLastMessage() {
+        ProcessMill mill = new ProcessMill();
+        mill.start(0, 1);
+        for (int k = 0; k < 40; k++) {
+            check.same("message " + k + " before it comes", mill.message(1, k, 1), ProcessMill.NONE);
+            mill.send(1, 100 + k);
+            check.same("message " + k, mill.message(1, k, 1), 100 + k);
+            check.same("behind it", mill.message(1, k + 1, 0), ProcessMill.NONE);
+        }
+        mill.send(1, 140);
+        check.same("message 39", mill.message(1, 39, 1), 139);
+        check.same("message 40, for which there was no room", mill.message(1, 40, 1), ProcessMill.NONE);
+    }
+
+    private static void theLongestMessage() {
+        ProcessMill mill = Mills.loaded(Mills.w(1, 0, 6), Mills.w(7), Mills.w(7), Mills.w(7), Mills.w(7), Mills.w(7),
+                Mills.w(20, 1), Mills.w(23, 1, 0), Mills.w(11, 8));
+        mill.start(0, 1);
+        mill.run(1);
+        for (int i = 0; i < 95; i++) {
+            check.same("message(1, 0, " + i + ")", mill.message(1, 0, i), mill.register(1, 0, i));
+        }
+        check.same("the first number", mill.message(1, 0, 0), -1);
+        check.same("the last number", mill.message(1, 0, 94), 6);
+        check.same("behind it", mill.message(1, 0, 95), ProcessMill.NONE);
     }
 }

@@ -30,13 +30,13 @@ final class NewObjectTest {
     }
 
     private static void allWordsAreZero() {
-        ProcessMill mill = new ProcessMill();
-        int[] places = {0, 1, 150, 299};
-        for (int k = 0; k < places.length; k++) {
-            int pid = mill.start(places[k], 1);
+        for (int at = 0; at < 300; at++) {
+            ProcessMill mill = new ProcessMill();
+            mill.start(at, 1);
             mill.run(1);
-            check.same("reason of one at word " + places[k], Mills.reason(mill, pid), "a0");
-            check.same("words of one at word " + places[k], mill.process(pid, 10), 1);
+            check.same("reason of one at word " + at, Mills.reason(mill, 1), "a0");
+            check.same("words of one at word " + at, mill.process(1, 10), 1);
+            check.same("the word behind " + at, mill.process(1, 1), at == 299 ? 0 : at + 1);
         }
     }
 

@@ -6,7 +6,7 @@ import java.util.List;
 import java.util.TreeSet;
 
 /** The document written a second time, with the Java library and terms that never change, to compare with. */
-final class PlainMill {
+final class PlainMill implements Answers {
     private static final int BAD = 4;
     private static final int LIMIT = 5;
 
@@ -465,11 +465,13 @@ final class PlainMill {
         return went;
     }
 
-    int out(int i) {
+    @Override
+    public int out(int i) {
         return i >= 0 && i < 600 && i < printed.size() ? printed.get(i) : -1;
     }
 
-    int process(int pid, int what) {
+    @Override
+    public int process(int pid, int what) {
         Proc p = known(pid);
         return switch (what) {
             case 0 -> p.dead() ? 2 : p.waits ? 1 : 0;
@@ -487,19 +489,22 @@ final class PlainMill {
         };
     }
 
-    int register(int pid, int register, int i) {
+    @Override
+    public int register(int pid, int register, int i) {
         Proc p = known(pid);
         require(register >= 0 && register <= 8);
         Term term = register == 8 ? p.reason : p.x[register];
         return term == null ? -1 : term.told(i);
     }
 
-    int message(int pid, int k, int i) {
+    @Override
+    public int message(int pid, int k, int i) {
         Proc p = known(pid);
         return k >= 0 && k < p.box.size() ? p.box.get(k).told(i) : -1;
     }
 
-    int total(int what) {
+    @Override
+    public int total(int what) {
         return switch (what) {
             case 0 -> all.size();
             case 1 -> (int) all.stream().filter(p -> !p.dead()).count();

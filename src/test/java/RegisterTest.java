@@ -7,6 +7,9 @@ final class RegisterTest {
         rowsOfRegisters();
         theReason();
         theLongestTerm();
+        everyPid();
+        theLongestReason();
+        everyRegister();
         check.end();
     }
 
@@ -77,5 +80,52 @@ final class RegisterTest {
         check.same("ends told", ends, 32);
         check.same("the last number", mill.register(1, 0, 94), 0);
         check.same("behind it", mill.register(1, 0, 95), ProcessMill.NONE);
+    }
+
+    private static void everyPid() {
+        ProcessMill mill = Mills.loaded(Mills.w(20, 7), Mills.w(11, 1));
+        for (int pid = 1; pid <= 60; pid++) {
+            mill.start(0, 1);
+        }
+        mill.run(60);
+        for (int pid = 1; pid <= 60; pid++) {
+            check.same("X7 of pid " + pid, Mills.register(mill, pid, 7), "p" + pid);
+        }
+        check.illegalArgument("register(61, 0, 0)", () -> mill.register(61, 0, 0));
+        check.illegalArgument("register(60, 9, 0)", () -> mill.register(60, 9, 0));
+        check.illegalArgument("register(0, 8, 0)", () -> mill.register(0, 8, 0));
+    }
+
+    private static void everyRegister() {
+        ProcessMill mill = new ProcessMill();
+        for (int k = 0; k < 8; k++) {
+            mill.word(k, 1, k, -100 - k, 0);
+        }
+        mill.word(8, 27, 0, 0, 0);
+        mill.start(0, 1);
+        mill.run(1);
+        for (int k = 0; k < 8; k++) {
+            rowIs(mill, k, 0, -100 - k);
+        }
+        rowIs(mill, 8);
+    }
+
+    /** A reason of 32 ends is whole: 95 numbers, the last of them the 9. */
+    private static void theLongestReason() {
+        ProcessMill mill = Mills.loaded(Mills.w(2, 1, 9));
+        for (int k = 1; k < 32; k++) {
+            mill.word(k, 7, 0, 0, 1);
+        }
+        mill.word(32, 19, 0, 0, 0);
+        mill.start(0, 1);
+        mill.run(3);
+        check.same("it is dead", mill.process(1, 0), Mills.DEAD);
+        int[] due = new int[95];
+        for (int k = 0; k < 31; k++) {
+            due[k] = -1;
+            due[33 + 2 * k] = 1;
+            due[34 + 2 * k] = 9;
+        }
+        rowIs(mill, 8, due);
     }
 }

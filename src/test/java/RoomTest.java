@@ -4,6 +4,8 @@ import java.lang.management.ManagementFactory;
 final class RoomTest {
     /** 7.3 million fields and elements of four bytes, with much to spare. */
     private static final long ROOM = 4_000_000;
+    private static final int FILLING_RUNS = 60;
+    private static final int LATER_RUNS = 400;
     private static final Check check = new Check();
 
     public static void main(String[] args) {
@@ -13,14 +15,16 @@ final class RoomTest {
         check.same("a new object is small", allocated() - before < 20_000, true);
         makeBusy(mill);
         check.same("processes", mill.total(0), 60);
+        check.same("messages of the third", mill.process(3, 5) >= 39, true);
+        check.same("messages of the last", mill.process(60, 5) >= 39, true);
         long filled = allocated();
         check.same("sixty processes with full mailboxes fit", filled - before < ROOM, true);
         int came = mill.total(8);
-        for (int k = 0; k < 400; k++) {
+        for (int k = 0; k < LATER_RUNS; k++) {
             mill.run(60);
         }
         long done = allocated();
-        check.same("slices were done", mill.total(3) >= 24_000, true);
+        check.same("slices were done", mill.total(3) >= 60 * LATER_RUNS, true);
         check.same("messages came", mill.total(8) - came > 10_000, true);
         check.same("slices make nothing new", done - filled < 100_000, true);
         check.end();
@@ -33,7 +37,7 @@ final class RoomTest {
 
     /**
      * Pid 1 makes pid 2, which dies, then gives its pid to 58 more. These trap, and go on to catch, to build terms,
-     * to send exits to themselves, to watch the dead one and to drop messages.
+     * to send exits to themselves, to watch the dead one and to drop messages, of which fewer go than come.
      */
     private static void makeBusy(ProcessMill mill) {
         Mills.load(mill, 0, Mills.w(21, 1, 100), Mills.w(27, 2), Mills.w(17, 5), Mills.w(21, 2, 20, 1), Mills.w(11, 3),
@@ -43,13 +47,8 @@ final class RoomTest {
         mill.start(0, 0);
         mill.run(2);
         mill.send(1, 1);
-        for (int k = 0; k < 15; k++) {
+        for (int k = 0; k < FILLING_RUNS; k++) {
             mill.run(60);
-        }
-        for (int pid = 3; pid <= 60; pid++) {
-            for (int k = 0; k < 40; k++) {
-                mill.send(pid, k);
-            }
         }
     }
 }

@@ -6,6 +6,8 @@ final class StartTest {
         wrongStartsAreRefused();
         aStartedOne();
         sixtyAndNoMore();
+        everyPlaceAndPriority();
+        sixtyByWordsAndByCalls();
         check.end();
     }
 
@@ -47,5 +49,37 @@ final class StartTest {
         check.same("not dead", mill.total(1), 0);
         check.illegalState("a start after all have died", () -> mill.start(0, 1));
         check.same("processes", mill.total(0), 60);
+    }
+
+    private static void everyPlaceAndPriority() {
+        for (int priority = 0; priority <= 2; priority++) {
+            ProcessMill mill = new ProcessMill();
+            mill.start(0, priority);
+            mill.start(299, priority);
+            check.same("the first word", mill.process(1, 1), 0);
+            check.same("the last word", mill.process(2, 1), 299);
+            check.same("the priority", mill.process(1, 2) + mill.process(2, 2), 2 * priority);
+        }
+    }
+
+    /** A process that makes so many others, each of which waits, and then waits. */
+    private static ProcessMill made(int others) {
+        ProcessMill mill = Mills.loaded(Mills.w(1, 1, others), Mills.w(1, 2, 1), Mills.w(12, 6, 1, 3),
+                Mills.w(21, 4, 6), Mills.w(5, 1, 1, 2), Mills.w(11, 2), Mills.w(27, 6));
+        mill.start(0, 1);
+        mill.run(60);
+        mill.run(60);
+        return mill;
+    }
+
+    private static void sixtyByWordsAndByCalls() {
+        ProcessMill one = made(58);
+        check.same("processes", one.total(0), 59);
+        check.same("the 60th", one.start(0, 1), 60);
+        check.illegalState("the 61st", () -> one.start(0, 1));
+        ProcessMill none = made(59);
+        check.same("processes", none.total(0), 60);
+        check.illegalState("a start behind 60 made by words", () -> none.start(0, 1));
+        check.same("processes", none.total(0), 60);
     }
 }

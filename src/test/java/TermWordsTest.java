@@ -12,6 +12,12 @@ final class TermWordsTest {
         moreThanThirtyTwoEndsAreTooMany();
         kinds();
         theOrderOfTerms();
+        sumsAtTheEdges();
+        theFirstAndTheLastAtom();
+        endsOfAllSplits();
+        aPairThatFailsChangesNothing();
+        pidsAtTheEdges();
+        theLastOfManyEnds();
         check.end();
     }
 
@@ -158,5 +164,130 @@ final class TermWordsTest {
         Mills.load(mill, at + 2, words);
         mill.word(at + 2 + words.length, 3, register, 0, 0);
         return at + 3 + words.length;
+    }
+
+    private static String reckoned(int one, int operation, int other) {
+        return x0(Mills.w(1, 1, one), Mills.w(1, 2, other), Mills.w(operation, 0, 1, 2));
+    }
+
+    private static void sumsAtTheEdges() {
+        int most = Integer.MAX_VALUE;
+        int least = Integer.MIN_VALUE;
+        check.same("most - 1 + 1", reckoned(most - 1, 4, 1), "2147483647");
+        check.same("most + 1", reckoned(most, 4, 1), "-2147483648");
+        check.same("least + -1", reckoned(least, 4, -1), "2147483647");
+        check.same("least + least", reckoned(least, 4, least), "0");
+        check.same("least + 1 - 1", reckoned(least + 1, 5, 1), "-2147483648");
+        check.same("least - 1", reckoned(least, 5, 1), "2147483647");
+        check.same("0 - least", reckoned(0, 5, least), "-2147483648");
+        check.same("most - -1", reckoned(most, 5, -1), "-2147483648");
+        check.same("46340 * 46340", reckoned(46340, 6, 46340), "2147395600");
+        check.same("46341 * 46341", reckoned(46341, 6, 46341), "-2147479015");
+        check.same("65536 * 65536", reckoned(65536, 6, 65536), "0");
+        check.same("65536 * 32768", reckoned(65536, 6, 32768), "-2147483648");
+        check.same("least * -1", reckoned(least, 6, -1), "-2147483648");
+        check.same("least * least", reckoned(least, 6, least), "0");
+    }
+
+    private static void theFirstAndTheLastAtom() {
+        int[][] numbersAndAtoms = {{0, 0}, {1, 1}, {98, 98}, {99, 99}, {100, 0}, {101, 1}, {199, 99}, {200, 0},
+            {-1, 99}, {-99, 1}, {-100, 0}, {-101, 99}};
+        for (int[] row : numbersAndAtoms) {
+            check.same("atom " + row[0], x0(Mills.w(2, 0, row[0])), "a" + row[1]);
+        }
+    }
+
+    /** X1 of so many ends and X2 of so many, then their pair; a catch at 200 tells that it failed. */
+    private static ProcessMill joined(int firsts, int seconds) {
+        ProcessMill mill = Mills.loaded(Mills.w(17, 200), Mills.w(1, 5, 3));
+        int at = 2;
+        for (int k = 1; k < firsts; k++) {
+            mill.word(at++, 7, 1, 1, 5);
+        }
+        for (int k = 1; k < seconds; k++) {
+            mill.word(at++, 7, 2, 5, 2);
+        }
+        mill.word(at, 7, 3, 1, 2);
+        mill.word(at + 1, 11, at + 1, 0, 0);
+        mill.word(200, 11, 200, 0, 0);
+        mill.start(0, 1);
+        mill.run(10);
+        return mill;
+    }
+
+    private static void endsOfAllSplits() {
+        for (int firsts = 1; firsts <= 32; firsts++) {
+            String both = firsts + " ends and ";
+            if (firsts < 32) {
+                ProcessMill fits = joined(firsts, 32 - firsts);
+                check.same(both + (32 - firsts), fits.process(1, 1) < 200, true);
+                check.same(both + (32 - firsts) + ": numbers", fits.register(1, 3, 94) == ProcessMill.NONE, false);
+                check.same(both + (32 - firsts) + ": behind", fits.register(1, 3, 95), ProcessMill.NONE);
+            }
+            ProcessMill fails = joined(firsts, 33 - firsts);
+            check.same(both + (33 - firsts), fails.process(1, 1), 200);
+            check.same(both + (33 - firsts) + " fail", Mills.register(fails, 1, 0), "a5");
+        }
+        check.same("32 ends and 32", Mills.register(joined(32, 32), 1, 0), "a5");
+        check.same("1 end and 1", Mills.register(joined(1, 1), 1, 3), "(0 0)");
+    }
+
+    private static void aPairThatFailsChangesNothing() {
+        ProcessMill before = joined(16, 16);
+        ProcessMill mill = joined(16, 17);
+        check.same("Xa stays", Mills.register(mill, 1, 3), "0");
+        check.same("Xb stays", Mills.register(mill, 1, 1), Mills.register(before, 1, 1));
+        check.same("Xc stays", Mills.register(mill, 1, 2).length(), Mills.register(before, 1, 2).length() + 4);
+    }
+
+    /** Sixty processes: pid 1 finds pids 59 and 60 by their names, and compares. */
+    private static void pidsAtTheEdges() {
+        int[][] joining = {Mills.w(35, 1, 59), Mills.w(35, 2, 60), Mills.w(20, 3), Mills.w(1, 4, Integer.MIN_VALUE),
+            Mills.w(7, 4, 4, 4), Mills.w(2, 5, 99), Mills.w(1, 6, Integer.MAX_VALUE), Mills.w(2, 7, 0)};
+        int[] rising = {6, 7, 5, 3, 1, 2, 4};
+        for (int one = 0; one < rising.length; one++) {
+            for (int other = 0; other < rising.length; other++) {
+                ProcessMill mill = sixty();
+                Mills.load(mill, 0, joining);
+                Mills.load(mill, 8, Mills.w(13, 20, rising[one], rising[other]), Mills.w(11, 9));
+                mill.word(20, 11, 20, 0, 0);
+                mill.send(1, 0);
+                mill.run(1);
+                check.same("X" + rising[one] + " below X" + rising[other], mill.process(1, 1) == 20, one < other);
+            }
+        }
+    }
+
+    private static ProcessMill sixty() {
+        ProcessMill mill = new ProcessMill();
+        mill.word(50, 27, 0, 0, 0);
+        Mills.load(mill, 60, Mills.w(34, 59), Mills.w(27));
+        Mills.load(mill, 70, Mills.w(34, 60), Mills.w(27));
+        for (int pid = 1; pid <= 60; pid++) {
+            mill.start(pid == 59 ? 60 : pid == 60 ? 70 : 50, 1);
+        }
+        mill.run(60);
+        return mill;
+    }
+
+    /** Two terms of 32 ends that are the same but for their last ends. */
+    private static void theLastOfManyEnds() {
+        int[][] lastsAndDue = {{5, 5, 1, 0, 1}, {5, 6, 0, 1, 1}, {6, 5, 0, 0, 0}};
+        for (int[] row : lastsAndDue) {
+            for (int operation = 12; operation <= 14; operation++) {
+                ProcessMill mill = Mills.loaded(Mills.w(1, 1, row[0]), Mills.w(1, 2, row[1]));
+                for (int k = 0; k < 31; k++) {
+                    Mills.load(mill, 2 + 2 * k, Mills.w(7, 1, 3, 1), Mills.w(7, 2, 3, 2));
+                }
+                mill.word(64, operation, 100, 1, 2);
+                mill.word(65, 11, 65, 0, 0);
+                mill.word(100, 11, 100, 0, 0);
+                mill.start(0, 1);
+                mill.run(6);
+                boolean due = row[operation - 10] == 1;
+                check.same("operation " + operation + " of " + row[0] + " and " + row[1],
+                        mill.process(1, 1) == 100, due);
+            }
+        }
     }
 }

@@ -6,6 +6,9 @@ final class TotalTest {
         wrongAsksAreRefused();
         everyTotal();
         failedWordsAreDone();
+        totalsAtTheirGreatest();
+        whatCountsAsAMessage();
+        deadWaitingAndReady();
         check.end();
     }
 
@@ -48,5 +51,58 @@ final class TotalTest {
         mill.run(1);
         check.same("words of the process", mill.process(1, 10), 3);
         check.same("words of all", mill.total(4), 3);
+    }
+
+    private static void totalsAtTheirGreatest() {
+        ProcessMill mill = Mills.loaded(Mills.w(20, 1), Mills.w(31, 2, 1), Mills.w(11, 1));
+        for (int pid = 1; pid <= 60; pid++) {
+            mill.start(pid == 1 ? 0 : 100, pid == 1 ? 0 : 1);
+        }
+        totalsAre(mill, 60, 60, 60, 0, 0, 0, 0, 0, 0);
+        check.illegalState("the 61st", () -> mill.start(0, 1));
+        totalsAre(mill, 60, 60, 60, 0, 0, 0, 0, 0, 0);
+        mill.run(60);
+        check.same("watches made, then it failed", mill.total(7), 200);
+        mill.run(60);
+        check.same("not dead", mill.total(1), 0);
+        check.same("ready", mill.total(2), 0);
+        check.same("processes there were", mill.total(0), 60);
+        check.illegalArgument("total(9)", () -> mill.total(9));
+    }
+
+    /** By send, by 23, of exit and of down; not what finds no room or nobody. */
+    private static void whatCountsAsAMessage() {
+        ProcessMill mill = Mills.loaded(Mills.w(33, 1), Mills.w(20, 1), Mills.w(23, 1, 1), Mills.w(32, 1, 0),
+                Mills.w(21, 2, 100), Mills.w(2, 3, 1), Mills.w(32, 2, 3), Mills.w(31, 4, 2), Mills.w(29, 2),
+                Mills.w(23, 2, 1), Mills.w(23, 3, 1), Mills.w(11, 11));
+        mill.start(0, 0);
+        mill.send(1, 1);
+        mill.run(1);
+        check.same("the messages", Mills.messages(mill, 1), "1 p1 (a6 (p1 0)) (a7 (1 (p2 a3))) (a6 (p2 a3))");
+        check.same("messages that came", mill.total(8), 5);
+        for (int k = 5; k < 40; k++) {
+            mill.send(1, k);
+        }
+        check.same("messages that came", mill.total(8), 40);
+        check.same("no room", mill.send(1, 1), false);
+        check.same("dead", mill.send(2, 1), false);
+        check.same("messages that came", mill.total(8), 40);
+    }
+
+    private static void deadWaitingAndReady() {
+        ProcessMill mill = Mills.loaded(Mills.w(27, 0));
+        mill.word(20, 11, 20, 0, 0);
+        mill.start(0, 1);
+        mill.start(20, 1);
+        mill.start(10, 1);
+        totalsAre(mill, 3, 3, 3, 0);
+        mill.run(1);
+        totalsAre(mill, 3, 3, 2, 1, 1);
+        mill.run(1);
+        totalsAre(mill, 3, 3, 2, 2, 13);
+        mill.run(1);
+        totalsAre(mill, 3, 2, 1, 3, 14);
+        mill.send(1, 1);
+        totalsAre(mill, 3, 2, 2, 3, 14);
     }
 }

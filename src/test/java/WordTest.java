@@ -7,6 +7,9 @@ final class WordTest {
         edgesAreTaken();
         laterWordStands();
         partsAreTakenModulo();
+        everyWordIsAWord();
+        everyOperationIsTaken();
+        theFirstAndTheLastOperation();
         check.end();
     }
 
@@ -21,6 +24,7 @@ final class WordTest {
         for (int operation : operations) {
             check.illegalArgument("word(0, " + operation + ", ..)", () -> mill.word(0, operation, 0, 0, 0));
         }
+        check.illegalArgument("word(300, 37, ..)", () -> mill.word(300, 37, 0, 0, 0));
         mill.start(0, 1);
         mill.run(1);
         check.same("X0 by the word that stood before", Mills.register(mill, 1, 0), "5");
@@ -66,5 +70,40 @@ final class WordTest {
         mill.send(1, 1);
         mill.run(1);
         check.same("word -300 is 0", mill.process(1, 1), 1);
+    }
+
+    /** Each word gives X0 its own number: in turns of one slice, which ends at a word that waits, each is seen. */
+    private static void everyWordIsAWord() {
+        for (int at = 0; at < 300; at++) {
+            ProcessMill mill = new ProcessMill();
+            for (int k = 0; k < 300; k++) {
+                mill.word(k, 1, 0, k, 0);
+            }
+            mill.word((at + 1) % 300, 27, 0, 0, 0);
+            mill.start(at, 1);
+            mill.run(1);
+            check.same("X0 by word " + at, Mills.register(mill, 1, 0), "" + at);
+        }
+    }
+
+    private static void everyOperationIsTaken() {
+        for (int operation = 0; operation <= 36; operation++) {
+            ProcessMill mill = new ProcessMill();
+            mill.word(0, operation, Integer.MIN_VALUE, Integer.MAX_VALUE, -1);
+            mill.word(299, operation, Integer.MAX_VALUE, Integer.MIN_VALUE, -1);
+            mill.start(0, 1);
+            mill.start(299, 1);
+            check.same("a slice with operation " + operation, mill.run(2) > 0, true);
+            check.same("words done with operation " + operation, mill.total(4) > 1, true);
+        }
+    }
+
+    private static void theFirstAndTheLastOperation() {
+        ProcessMill mill = Mills.loaded(Mills.w(36, 0), Mills.w(36, 0), Mills.w(36, 0));
+        mill.word(1, 0, 0, 0, 0);
+        mill.start(0, 1);
+        mill.run(1);
+        check.same("operation 36 prints", mill.total(6), 2);
+        check.same("operation 0 ends it", mill.process(1, 10), 2);
     }
 }
