@@ -161,7 +161,7 @@ final class ReadmeTest {
         while (test.find()) {
             check.same(test.group(1) + " is there", Files.exists(TESTS.resolve(test.group(1) + ".java")), true);
         }
-        Matcher path = Pattern.compile("`((?:\\.\\./shared|src|\\.ci)/[\\w./]*)`").matcher(readme);
+        Matcher path = Pattern.compile("`((?:src|\\.ci)/[\\w./]*)`").matcher(readme);
         while (path.find()) {
             check.same(path.group(1) + " is there", Files.exists(Path.of(path.group(1))), true);
         }
